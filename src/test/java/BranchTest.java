@@ -153,6 +153,12 @@ public final class BranchTest {
         Check.is("with the map back", x.conflicts(0), 0);
         Check.bring(x, 0, 1, 0, 3);
         Check.is("with a change elsewhere", x.conflicts(0), 0);
+        Check.bring(x, 0, 0, 0, 0);
+        Check.is("with the place empty by now", x.conflicts(0), 1);
+        Check.is("settle(0, 0, true)", x.settle(0, 0, true), 0);
+        x.paint(0, 0, 0, 0, 1);
+        x.paint(0, 0, 0, 0, 4);
+        Check.is("with the place empty and the settling forgotten", x.conflicts(0), 1);
     }
 
     private static void conflictsAreOrderedBySpots() {

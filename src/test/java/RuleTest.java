@@ -151,6 +151,13 @@ public final class RuleTest {
         x.paint(0, 0, 0, 1, 0);
         Check.draw(x, 0, 1, "3.3");
         breaksIs(x, "another layer in parts", -1);
+        for (int area = 1; area <= 9; area++) {
+            CindermapStore y = ruled('w', 1, 0);
+            Check.draw(y, 0, 1, "", "." + area + "." + area);
+            breaksIs(y, "two parts of area " + area, 0);
+            y.paint(0, 1, 2, 1, area);
+            breaksIs(y, "the parts of area " + area + " joined", -1);
+        }
     }
 
     private static void noPlaceHasJustOneRoad() {

@@ -91,7 +91,9 @@ public final class SumTest {
         spoiled("a tile of scale 2", x -> spoilTile(x, 0, 79));
         spoiled("a tile of scale 4", x -> spoilTile(x, 2, 83));
         spoiled("a tile of scale 8", x -> spoilTile(x, 1, 84));
-        spoiled("an edit", x -> branchRow(x, "edit")[9] = branchRow(x, "base")[9]);
+        for (int spot : new int[] {0, 9, 303}) {
+            spoiled("an edit", x -> branchRow(x, "edit")[spot] = branchRow(x, "base")[spot]);
+        }
     }
 
     private static void spoiled(String what, Consumer<CindermapStore> spoil) {
@@ -117,37 +119,40 @@ public final class SumTest {
         against('c', 1, "1", "");
         against('x', 64, "1", "1");
         against('x', 65, "1", "");
-        against('g', 1, "01", "0");
-        against('g', 8, "11", "1");
-        against('g', 27, "", "...1", "..101", "...1");
+        against('g', 8, ".1");
+        against('g', 1, "", "1");
+        against('g', 27, "", "...1", "..1.1");
+        against('g', 18, "", "...1", "....1", "...1");
+        against('g', 62, "", "", "", "", "", "", ".......1", "");
         against('w', 2, "11", "");
         against('w', 2, "1", "");
         against('w', 8, "1.1", "1.1", "1.1", "111");
+        against('w', 10, "111", "..1", ".11");
+        against('w', 54, "", "", "", "", "", "", "......22", "......2.");
         against('m', 248 + 27, "");
         against('m', 192 + 22, "");
         against('m', 192 + 21, "");
     }
 
     /**
-     * Draws layer 0, and layer 1 like it, with the rule; then changes a spot in the map and in its
-     * last version alike, and looks whether the pairs tell just what the rule tells.
+     * Draws a map that keeps the rule; then changes a spot in the map and in its version alike, and
+     * looks whether the pairs of places tell just what the rule tells of the same map without it.
      */
     private static void against(char kind, int spot, String... rows) {
         for (int value = 0; value <= (spot < 192 ? 2 : 1); value++) {
-            CindermapStore ruled = new CindermapStore();
-            CindermapStore free = new CindermapStore();
-            boolean isRuled = paintLayers(ruled, kind, rows) && takesRule(ruled, kind);
-            paintLayers(free, kind, rows);
+            CindermapStore ruled = painted(kind, rows);
+            CindermapStore free = painted(kind, rows);
+            Check.is("whether " + kind + " is taken at first", takesRule(ruled, kind), true);
             setInHistory(ruled, spot, value);
             setInHistory(free, spot, value);
-            boolean want = takesRule(free, kind);
-            if (isRuled) {
-                Check.is("isSound() with " + kind + " and " + value + " at " + spot, ruled.isSound(), want);
-            }
+            Check.is("isSound() with " + kind + " and " + value + " at " + spot, ruled.isSound(),
+                takesRule(free, kind));
         }
     }
 
-    private static boolean paintLayers(CindermapStore x, char kind, String... rows) {
+    /** Draws layer 0, and layer 1 like it for c; layer 2 sees to it that there is a version. */
+    private static CindermapStore painted(char kind, String... rows) {
+        CindermapStore x = new CindermapStore();
         int branch = x.open();
         Check.draw(x, branch, 0, rows);
         if (kind == 'c') {
@@ -155,7 +160,7 @@ public final class SumTest {
         }
         x.paint(branch, 2, 0, 0, 1);
         x.merge(branch);
-        return true;
+        return x;
     }
 
     private static boolean takesRule(CindermapStore x, char kind) {
