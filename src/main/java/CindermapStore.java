@@ -667,8 +667,10 @@ public final class CindermapStore {
                 int place = queue[head];
                 for (int direction = 0; direction < Grid.DIRECTIONS; direction++) {
                     int beside = Grid.beside(place, direction);
-                    if (beside != NONE && reached < PLACES && steps[beside] == NONE
-                            && isJoined(row, layer, place, beside)) {
+                    boolean isJoined = beside != NONE && (layer == OVER_ROADS
+                            ? Grid.isRoadBetween(row, place, beside)
+                            : Grid.areaAt(row, layer, place) == Grid.areaAt(row, layer, beside));
+                    if (isJoined && reached < PLACES && steps[beside] == NONE) {
                         steps[beside] = steps[place] + 1;
                         queue[reached] = beside;
                         reached++;
@@ -676,13 +678,6 @@ public final class CindermapStore {
                 }
             }
             return reached;
-        }
-
-        private static boolean isJoined(int[] row, int layer, int place, int beside) {
-            if (layer == OVER_ROADS) {
-                return Grid.isRoadBetween(row, place, beside);
-            }
-            return Grid.areaAt(row, layer, place) == Grid.areaAt(row, layer, beside);
         }
 
         int stepsTo(int place) {

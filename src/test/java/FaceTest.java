@@ -57,16 +57,22 @@ public final class FaceTest {
     private static void theFaceIsTheDocuments() {
         TreeSet<String> found = new TreeSet<>();
         TreeSet<String> hidden = new TreeSet<>();
+        TreeSet<String> names = new TreeSet<>();
         for (Method method : CindermapStore.class.getDeclaredMethods()) {
             if (Modifier.isPrivate(method.getModifiers())) {
                 hidden.add(method.getName());
             } else {
                 Check.is("modifiers of " + method, method.getModifiers(), Modifier.PUBLIC);
                 found.add(signature(method));
-                Check.is("a private namesake of " + method, hidden.contains(method.getName()), false);
+                names.add(method.getName());
             }
         }
         Check.is("the methods of the face", found, new TreeSet<>(Arrays.asList(FACE)));
+        hidden.retainAll(names);
+        Check.is("private methods with public names", hidden, new TreeSet<String>());
+        for (Class<?> inside : CindermapStore.class.getDeclaredClasses()) {
+            Check.is(inside + " is open to all", inside.getModifiers() & (Modifier.PUBLIC | Modifier.PROTECTED), 0);
+        }
         Check.is("the class's modifiers", CindermapStore.class.getModifiers(), Modifier.PUBLIC | Modifier.FINAL);
         Constructor<?>[] constructors = CindermapStore.class.getDeclaredConstructors();
         Check.is("the number of constructors", constructors.length, 1);
