@@ -185,17 +185,8 @@ public final class BranchTest {
         Check.fails("conflict(-1, 0)", Check.INDEX, x, () -> x.conflict(-1, 0));
     }
 
-    /** An object whose branch 0 tells 7 at the spot 0, where the map has gone from 0 to 5. */
-    private static CindermapStore inConflict() {
-        CindermapStore x = new CindermapStore();
-        x.open();
-        x.paint(0, 0, 0, 0, 7);
-        Check.bring(x, 0, 0, 0, 5);
-        return x;
-    }
-
     private static void settlingForTheOwnEdit() {
-        CindermapStore x = inConflict();
+        CindermapStore x = Check.inConflict();
         x.paint(0, 0, 1, 0, 7);
         Check.bring(x, 0, 1, 0, 5);
         Check.is("settle(0, 1, true)", x.settle(0, 1, true), 1);
@@ -215,7 +206,7 @@ public final class BranchTest {
     }
 
     private static void settlingAgainstTheOwnEdit() {
-        CindermapStore x = inConflict();
+        CindermapStore x = Check.inConflict();
         Check.is("settle(0, 0, false)", x.settle(0, 0, false), 0);
         Check.is("edits(0)", x.edits(0), 0);
         Check.is("seen(0, 0)", x.seen(0, 0), 0);
@@ -224,7 +215,7 @@ public final class BranchTest {
     }
 
     private static void settlingIsForgottenWithTheEdit() {
-        CindermapStore x = inConflict();
+        CindermapStore x = Check.inConflict();
         x.settle(0, 0, true);
         x.paint(0, 0, 0, 0, 0);
         x.paint(0, 0, 0, 0, 7);
@@ -245,7 +236,7 @@ public final class BranchTest {
     }
 
     private static void onlyTheLastSettlingCounts() {
-        CindermapStore x = inConflict();
+        CindermapStore x = Check.inConflict();
         x.settle(0, 0, true);
         Check.bring(x, 0, 0, 0, 6);
         Check.is("settle(0, 0, true) over 6", x.settle(0, 0, true), 0);
@@ -257,7 +248,7 @@ public final class BranchTest {
     }
 
     private static void wrongSettlingsAreRefused() {
-        CindermapStore x = inConflict();
+        CindermapStore x = Check.inConflict();
         Check.fails("settle(0, 1, true)", Check.UNSUPPORTED, x, () -> x.settle(0, 1, true));
         Check.fails("settle(0, 1, false)", Check.UNSUPPORTED, x, () -> x.settle(0, 1, false));
         Check.fails("settle(0, 304, true)", Check.ARGUMENT, x, () -> x.settle(0, 304, true));

@@ -15,14 +15,20 @@ final class Check {
     static final Class<java.util.NoSuchElementException> NO_ELEMENT = java.util.NoSuchElementException.class;
 
     private static int wrong = 0;
+    /** Stands before what is printed, so that it tells which sentence of the document is broken. */
+    private static String topic = "";
 
     private Check() {
+    }
+
+    static void speakOf(String newTopic) {
+        topic = newTopic;
     }
 
     static void is(String call, Object got, Object want) {
         if (!got.equals(want)) {
             wrong++;
-            System.out.println(call + " answered " + got + ", due is " + want);
+            System.out.println(topic + call + " answered " + got + ", due is " + want);
         }
     }
 
@@ -36,7 +42,7 @@ final class Check {
                 is(call, "throws " + thrown, "throws " + want.getSimpleName());
             }
         }
-        is(call + ": the object's state", picture(store), before);
+        is(call + ": whether the object's state is as before", picture(store).equals(before), true);
     }
 
     static void end() {
@@ -70,6 +76,43 @@ final class Check {
         draw(store, branch, 0, rows);
         store.merge(branch);
         return store;
+    }
+
+    /** An object whose branch 0 tells 7 at the spot 0, where the map has gone from 0 to 5. */
+    static CindermapStore inConflict() {
+        CindermapStore store = new CindermapStore();
+        store.open();
+        store.paint(0, 0, 0, 0, 7);
+        bring(store, 0, 0, 0, 5);
+        return store;
+    }
+
+    /** An object with one long way through all places by version 1: to the right, then to the left, and so on. */
+    static CindermapStore snake() {
+        CindermapStore store = new CindermapStore();
+        store.open();
+        for (int y = 0; y < 8; y++) {
+            for (int x = 0; x < 7; x++) {
+                store.road(0, x, y, false, true);
+            }
+            if (y < 7) {
+                store.road(0, y % 2 == 0 ? 7 : 0, y, true, true);
+            }
+        }
+        store.merge(0);
+        return store;
+    }
+
+    /** The row that holds the map inside the object, for tests that spoil it. */
+    static int[] mapOf(CindermapStore store) {
+        return (int[]) get(store, "map");
+    }
+
+    /** Sets a spot of the map and of its newest version alike, past all rules. */
+    static void set(CindermapStore store, int spot, int value) {
+        mapOf(store)[spot] = value;
+        Object step = ((Object[]) get(get(store, "history"), "steps"))[store.version()];
+        ((int[]) get(step, "values"))[spot] = value;
     }
 
     /** The private state as a text, without the rows that each call fills anew. */

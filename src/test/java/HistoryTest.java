@@ -85,17 +85,7 @@ public final class HistoryTest {
     }
 
     private static void theShortestRouteCounts() {
-        CindermapStore x = new CindermapStore();
-        x.open();
-        for (int y = 0; y < 8; y++) {
-            for (int column = 0; column < 7; column++) {
-                x.road(0, column, y, false, true);
-            }
-            if (y < 7) {
-                x.road(0, y % 2 == 0 ? 7 : 0, y, true, true);
-            }
-        }
-        x.merge(0);
+        CindermapStore x = Check.snake();
         Check.is("route(0, 56, 1) along a snake", x.route(0, 56, 1), 63);
         Check.is("route(56, 0, 1) along a snake", x.route(56, 0, 1), 63);
         x.open();

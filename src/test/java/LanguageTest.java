@@ -1,11 +1,14 @@
 import java.io.IOException;
+import java.lang.reflect.Field;
+import java.lang.reflect.Method;
+import java.lang.reflect.Modifier;
 import java.nio.charset.StandardCharsets;
 import java.nio.file.Files;
 import java.nio.file.Path;
 import java.util.regex.Matcher;
 import java.util.regex.Pattern;
 
-/** What of ../shared/LANGUAGE.md can be read off the source's text. It runs in the project's root. */
+/** What of ../shared/LANGUAGE.md the source's text and the compiled classes show. It runs in the project's root. */
 public final class LanguageTest {
     private static final Path SOURCE = Path.of("src/main/java/CindermapStore.java");
     /** Each with the rule that it is against. */
@@ -30,6 +33,10 @@ public final class LanguageTest {
         staticFieldsAreFinal(code);
         methodsAreShort(text);
         classesAreFew(code);
+        membersAreAllowed(CindermapStore.class);
+        for (Class<?> inside : CindermapStore.class.getDeclaredClasses()) {
+            membersAreAllowed(inside);
+        }
         Check.end();
     }
 
@@ -63,5 +70,27 @@ public final class LanguageTest {
             count++;
         }
         Check.is("rule 11: more than twelve classes", count > 12, false);
+    }
+
+    private static void membersAreAllowed(Class<?> looked) {
+        int fields = 0;
+        for (Field field : looked.getDeclaredFields()) {
+            boolean isStatic = Modifier.isStatic(field.getModifiers());
+            fields += isStatic ? 0 : 1;
+            Check.is("rule 3: the type of " + field, isAllowed(field.getType()), true);
+            Check.is("rule 5: " + field + " is final or no static", Modifier.isFinal(field.getModifiers()) || !isStatic, true);
+        }
+        Check.is("rule 11: more than twenty fields of " + looked, fields > 20, false);
+        for (Method method : looked.getDeclaredMethods()) {
+            Check.is("rule 11: more than seven parameters of " + method, method.getParameterCount() > 7, false);
+        }
+    }
+
+    private static boolean isAllowed(Class<?> type) {
+        Class<?> of = type.isArray() ? type.getComponentType() : type;
+        if (of.isArray()) {
+            return of.getComponentType().isPrimitive();
+        }
+        return of.isPrimitive() || of == String.class || of.getEnclosingClass() == CindermapStore.class;
     }
 }

@@ -38,24 +38,17 @@ public final class SumTest {
 
     private static void theChecksumGoesOverAll() {
         CindermapStore x = new CindermapStore();
-        Check.is("checksum() of an empty map", x.checksum(), expected(x));
+        Check.is("checksum() of an empty map", x.checksum(), SumEdges.sumOf(0));
         x.open();
         x.paint(0, 0, 0, 0, 9);
         x.paint(0, 2, 7, 7, 3);
         x.road(0, 0, 0, false, true);
         x.road(0, 7, 6, true, true);
         x.merge(0);
-        Check.is("checksum()", x.checksum(), expected(x));
+        Check.is("checksum()", x.checksum(),
+            SumEdges.sumOf(1, new int[] {0, 9}, new int[] {191, 3}, new int[] {192, 1}, new int[] {303, 1}));
         x.undo();
-        Check.is("checksum() after undo()", x.checksum(), expected(x));
-    }
-
-    private static long expected(CindermapStore x) {
-        long sum = 7;
-        for (int spot = 0; spot < 304; spot++) {
-            sum = sum * 31 + x.value(spot, x.version());
-        }
-        return sum * 31 + x.version();
+        Check.is("checksum() after undo()", x.checksum(), SumEdges.sumOf(2));
     }
 
     /** An object with all that can be unsound: rules, versions, tiles and a branch. */
@@ -85,8 +78,8 @@ public final class SumTest {
 
     /** The promise can't be seen broken from outside, so these tests spoil the private state. */
     private static void aSpoiledObjectIsNotSound() {
-        spoiled("the map", x -> mapOf(x)[303] = 1);
-        spoiled("the map of a place without tiles", x -> mapOf(x)[70] = 3);
+        spoiled("the map", x -> Check.mapOf(x)[303] = 1);
+        spoiled("the map of a place without tiles", x -> Check.mapOf(x)[70] = 3);
         spoiled("a tile of scale 1", x -> spoilTile(x, 0, 0));
         spoiled("a tile of scale 2", x -> spoilTile(x, 0, 79));
         spoiled("a tile of scale 4", x -> spoilTile(x, 2, 83));
@@ -100,10 +93,6 @@ public final class SumTest {
         CindermapStore x = inUse();
         spoil.accept(x);
         Check.is("isSound() with " + what + " spoiled", x.isSound(), false);
-    }
-
-    private static int[] mapOf(CindermapStore x) {
-        return (int[]) Check.get(x, "map");
     }
 
     private static void spoilTile(CindermapStore x, int layer, int slot) {
@@ -143,8 +132,8 @@ public final class SumTest {
             CindermapStore ruled = painted(kind, rows);
             CindermapStore free = painted(kind, rows);
             Check.is("whether " + kind + " is taken at first", takesRule(ruled, kind), true);
-            setInHistory(ruled, spot, value);
-            setInHistory(free, spot, value);
+            Check.set(ruled, spot, value);
+            Check.set(free, spot, value);
             Check.is("isSound() with " + kind + " and " + value + " at " + spot, ruled.isSound(),
                 takesRule(free, kind));
         }
@@ -170,11 +159,5 @@ public final class SumTest {
         } catch (UnsupportedOperationException e) {
             return false;
         }
-    }
-
-    private static void setInHistory(CindermapStore x, int spot, int value) {
-        mapOf(x)[spot] = value;
-        Object step = ((Object[]) Check.get(Check.get(x, "history"), "steps"))[1];
-        ((int[]) Check.get(step, "values"))[spot] = value;
     }
 }
